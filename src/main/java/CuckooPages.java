@@ -62,14 +62,19 @@ public final class CuckooPages {
         seeds[k] = value;
     }
 
+    /** First looks for a way, which changes nothing, and only then goes it. */
     public int put(int key, int value) {
         int how = choose(now, seedInUse(now), key, value);
-        if (how == FULL) {
-            return makeAnew(key, value) ? ANEW : FULL;
+        for (int step = 1; step < SEEDS && how == FULL; step++) {
+            if (fillTrial((now.seedTold() + step) % SEEDS, key, value)) {
+                how = ANEW;
+            }
         }
-        if (how == BY_PATH) {
+        if (how == ANEW) {
+            takeTrial();
+        } else if (how == BY_PATH) {
             followPath();
-        } else {
+        } else if (how != FULL) {
             makeMoves();
         }
         return how;
@@ -293,22 +298,10 @@ public final class CuckooPages {
         }
     }
 
-    private boolean makeAnew(int key, int value) {
-        int set = 1 - now.setTold();
-        for (int step = 1; step < SEEDS; step++) {
-            int which = (now.seedTold() + step) % SEEDS;
-            if (fillTrial(set, which, key, value)) {
-                takeTrial();
-                return true;
-            }
-        }
-        return false;
-    }
-
     /** Tried on an image of its own, since a SEED that fails must leave nothing changed. */
-    private boolean fillTrial(int set, int which, int key, int value) {
+    private boolean fillTrial(int which, int key, int value) {
         trial.emptyAll();
-        trial.tellRoot(set, which);
+        trial.tellRoot(1 - now.setTold(), which);
         int seed = seedInUse(trial);
         int start = placeOf(now.rowInUse(0), 0);
         for (int i = 0; i < PAGES * SLOTS; i++) {
@@ -518,8 +511,9 @@ public final class CuckooPages {
         }
 
         boolean tellOf(int place) {
-            for (int i = 0; i < MOST_MOVES && i < size(); i++) {
-                if (placeAt(i) == place) {
+            int many = cellAt(cells, 0, 0);
+            for (int i = 0; i < MOST_MOVES && i < many; i++) {
+                if (cellAt(cells, 0, 1 + i * ENTRY) == place) {
                     return true;
                 }
             }
