@@ -10,7 +10,7 @@ final class HomeTest {
         Check.end();
     }
 
-    /** Seed, key, first home, second home: reckoned by hand, apart from the class and from Keys. */
+    /** Seed, key, first home, second home: reckoned once in another language, apart from the class and from Keys. */
     private static void knownHomes() {
         int[][] due = {
             {1, 0, 5, 0}, {1, 5, 6, 2}, {1, -7, 2, 6}, {1, -1, 0, 1},
