@@ -81,7 +81,7 @@ final class ModelTest {
         }
 
         private void call(String at) {
-            int what = random.nextInt(100);
+            int what = random.nextInt(102);
             int key = random.nextInt(3) == 0 && what >= 55 ? heldKey() : key();
             if (what < 60) {
                 int value = random.nextInt(1000) - 500;
@@ -105,11 +105,25 @@ final class ModelTest {
                 Check.due(at + "reads", pages.reads(key), model.reads(key));
             } else if (what < 96) {
                 Check.due(at + "home", pages.home(key, what < 94), model.home(key, what < 94));
-            } else {
+            } else if (what < 100) {
                 int page = random.nextInt(9);
                 int slot = random.nextInt(4);
                 int of = random.nextInt(3);
                 Check.due(at + "slot", pages.slot(page, slot, of), model.slot(page, slot, of));
+            } else {
+                refusedCall(at + "refused call");
+            }
+        }
+
+        /** The model is not told of it: what throws changes nothing. */
+        private void refusedCall(String at) {
+            int wrong = random.nextBoolean() ? -1 - random.nextInt(50) : 9 + random.nextInt(50);
+            switch (random.nextInt(5)) {
+                case 0 -> Check.dueIllegalArgument(at, () -> pages.seed(wrong, 5));
+                case 1 -> Check.dueIllegalArgument(at, () -> pages.crash(-1 - Math.abs(wrong)));
+                case 2 -> Check.dueIllegalArgument(at, () -> pages.slot(wrong, 0, 0));
+                case 3 -> Check.dueIllegalArgument(at, () -> pages.slot(8, wrong, wrong & 1));
+                default -> Check.dueIllegalArgument(at, () -> pages.count(wrong));
             }
         }
 

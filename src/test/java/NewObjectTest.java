@@ -4,27 +4,32 @@ final class NewObjectTest {
     }
 
     public static void main(String[] args) {
-        allEmpty();
-        seedsAreOneToFour();
+        Check.sentence("All SLOTS empty", NewObjectTest::allSlotsEmpty);
+        Check.sentence("All SLOTS empty (KEY 0 is not there)", NewObjectTest::zeroIsNotThere);
+        Check.sentence("SEEDS 1, 2, 3, 4", NewObjectTest::seedsAreOneToFour);
+        Check.sentence("no WRITES", NewObjectTest::noWrites);
+        Check.sentence("A new object: nothing was counted", NewObjectTest::nothingCounted);
+        Check.sentence("A new object: apart from others", NewObjectTest::apartFromOthers);
         Check.end();
     }
 
-    private static void allEmpty() {
+    private static void allSlotsEmpty() {
         CuckooPages x = new CuckooPages();
-        for (int what = 0; what <= 8; what++) {
-            Check.due("count(" + what + ") of a new object", x.count(what), 0);
-        }
         for (int place = 0; place < 36; place++) {
             for (int what = 0; what < 3; what++) {
                 Check.due("slot of a new object", x.slot(place / 4, place % 4, what), 0);
             }
         }
-        // an empty slot must not pass for one with the key 0
-        Check.due("has(0) of a new object", x.has(0), false);
-        Check.due("sync() of a new object", x.sync(), 0);
-        Check.due("crash(0) of a new object", x.crash(0), 0);
-        Check.due("has(0) behind a crash of a new object", x.has(0), false);
-        Check.dueSame("two new objects are apart", Check.stateOf(x), Check.stateOf(new CuckooPages()));
+    }
+
+    private static void zeroIsNotThere() {
+        CuckooPages x = new CuckooPages();
+        Check.due("has(0)", x.has(0), false);
+        Check.due("reads(0)", x.reads(0), 3);
+        Check.due("remove(0)", x.remove(0), false);
+        x.crash(0);
+        Check.due("has(0) behind a crash", x.has(0), false);
+        Check.due("put(0, 0)", x.put(0, 0), 1);
     }
 
     /** Made anew again and again, an object shows each of its seeds by the homes it tells. */
@@ -38,20 +43,42 @@ final class NewObjectTest {
                 Check.due("home by seed " + which, x.home(key, false), Keys.home(key, 1 + which, false));
                 Check.due("second home by seed " + which, x.home(key, true), Keys.home(key, 1 + which, true));
             }
-            crowd(x, 1 + which);
+            int[] keys = Keys.withHomes(13, 1 + which, 3, 5);
+            for (int key : keys) {
+                x.put(key, 1);
+            }
+            Keys.removeAll(x, keys);
         }
         for (int which = 0; which < 4; which++) {
             Check.due("seed " + which + " was seen in use", seen[which], true);
         }
     }
 
-    private static void crowd(CuckooPages x, int seed) {
-        int[] keys = Keys.withHomes(13, seed, 3, 5);
-        for (int key : keys) {
-            x.put(key, 1);
+    private static void noWrites() {
+        CuckooPages x = new CuckooPages();
+        Check.due("writes that wait", x.count(1), 0);
+        Check.due("writes ever", x.count(2), 0);
+        Check.due("sync()", x.sync(), 0);
+        Check.due("crash(0)", x.crash(0), 0);
+        // no write was: the seeds may still be told
+        x.seed(0, 5);
+        Check.due("home by the seed told", x.home(3, false), Keys.home(3, 5, false));
+    }
+
+    private static void nothingCounted() {
+        CuckooPages x = new CuckooPages();
+        for (int what = 0; what <= 8; what++) {
+            Check.due("count(" + what + ")", x.count(what), 0);
         }
-        for (int key : keys) {
-            x.remove(key);
+    }
+
+    private static void apartFromOthers() {
+        CuckooPages x = new CuckooPages();
+        CuckooPages y = new CuckooPages();
+        x.seed(0, 99);
+        for (int key = 0; key < 20; key++) {
+            x.put(key, key);
         }
+        Check.dueTwins("two new objects", y, new CuckooPages(), 0);
     }
 }
