@@ -10,7 +10,8 @@ final class AnewTest {
         Check.sentence("for SEEDS behind the one in use, round", AnewTest::seedsBehindTheOneInUse);
         Check.sentence("the three others", AnewTest::notTheOneInUse);
         Check.sentence("the three others (all of them)", AnewTest::noneOfAll);
-        Check.sentence("into an empty SET", AnewTest::intoAnEmptySet);
+        Check.sentence("into an empty SET (what it had before is gone)", AnewTest::intoAnEmptySet);
+        Check.sentence("into an empty SET (for each SEED)", AnewTest::emptyForEachSeed);
         Check.sentence("all there is (PAGE by PAGE, SLOT by SLOT), and then the KEY put", AnewTest::inThisOrder);
         Check.sentence("are PUT as above (by a PATH, into the STASH)", AnewTest::putAsAbove);
         Check.sentence("but without MAKING ANEW", AnewTest::withoutMakingAnew);
@@ -121,19 +122,34 @@ final class AnewTest {
         return Check.slotsOf(x);
     }
 
-    /** Set 0 still has its old keys when it is the other set again. */
+    /** Puts thirteen keys that crowd, so that the object is made anew, and looks at all slots of the new set. */
+    private static void dueAnew(CuckooPages x, int[] keys, int newSeed) {
+        for (int i = 0; i < 12; i++) {
+            x.put(keys[i], -keys[i]);
+        }
+        String due = slotsBy(newSeed, keysBySlots(x), keys[12]);
+        Check.due("put that makes anew", x.put(keys[12], -keys[12]), 4);
+        Check.due("keys", x.count(0), 13);
+        Check.dueSame("slots behind making anew", Check.slotsOf(x), due);
+    }
+
+    /** Set 0 still has its old keys when it is the other set again, and then set 1 has. */
     private static void intoAnEmptySet() {
         Layout at = new Layout();
         at.goToSetOne();
         int[] keys = Keys.withHomes(13, 2, 2, 6);
-        for (int i = 0; i < 12; i++) {
-            at.x.put(keys[i], -keys[i]);
-        }
-        String due = slotsBy(3, keysBySlots(at.x), keys[12]);
-        Check.due("put that makes anew", at.x.put(keys[12], -keys[12]), 4);
+        dueAnew(at.x, keys, 3);
         Check.due("the set", at.x.count(4), 0);
-        Check.due("keys", at.x.count(0), 13);
-        Check.dueSame("slots behind making anew", Check.slotsOf(at.x), due);
+        Keys.removeAll(at.x, keys);
+        dueAnew(at.x, Keys.withHomes(13, 3, 2, 6), 4);
+        Check.due("the set", at.x.count(4), 1);
+    }
+
+    /** By seed 1 twelve of the keys find room before it fails: seed 2 must not meet them. */
+    private static void emptyForEachSeed() {
+        CuckooPages x = new CuckooPages();
+        dueAnew(x, Keys.crowded(13, 1, 2), 3);
+        Check.due("the seed", x.count(5), 2);
     }
 
     /** So many keys with the homes 6 and 2 by seed 1, and crowded on the lower four buckets by seed 2. */

@@ -34,6 +34,9 @@ final class CountTest {
         at.x.crash(10);
         // put twice each: the tenth write is the second one of the fifth key
         Check.due("keys behind a crash", at.x.count(0), 5);
+        Layout one = new Layout();
+        one.goToSetOne();
+        Check.due("keys of set 1, set 0 having some", one.x.count(0), 0);
     }
 
     private static void writesThatWait() {
@@ -112,6 +115,12 @@ final class CountTest {
         Check.due("keys in the stash, that home being full", x.count(3), 3);
         x.crash(9);
         Check.due("keys in the stash behind a crash", x.count(3), 1);
+        Layout at = new Layout();
+        at.goToSetOne();
+        Check.due("keys in the stash of set 1, that of set 0 being full", at.x.count(3), 0);
+        at.close(1, 4);
+        at.put(1, 4, 3);
+        Check.due("keys in the stash of set 1", at.x.count(3), 1);
     }
 
     private static CuckooPages madeAnew() {
@@ -184,8 +193,10 @@ final class CountTest {
         at.x.sync();
         at.x.crash(0);
         Check.due("slots of the last path behind other calls", at.x.count(7), 3);
-        at.put(1, 4, 1);
-        Check.due("slots of the last path behind a put at home", at.x.count(7), 3);
+        at.fill(0, 2, 3, 3, 3);
+        at.fill(3, 0, 0, 0);
+        at.put(0, 3, 2);
+        Check.due("slots of a third path, shorter than the second", at.x.count(7), 2);
     }
 
     private static void zeroBeforeOne() {

@@ -19,6 +19,8 @@ final class PutTest {
         Check.sentence("If none can be: FULL. (SLOTS are empty, but none that helps)", PutTest::fullThoughEmpty);
         Check.sentence("FULL: a KEY that is there can be put", PutTest::fullButThere);
         Check.sentence("FULL: not for good", PutTest::fullForNow);
+        Check.sentence("0 if the KEY was there, 1 in a HOME at once, 2 by a PATH, 3 in the STASH, 4 by MAKING ANEW; or FULL",
+            PutTest::answers);
         Check.sentence("put: any ints", PutTest::anyInts);
         Check.end();
     }
@@ -217,6 +219,20 @@ final class PutTest {
         Check.due("put of one key more, again", x.put(keys[13], 1), -2);
         x.remove(keys[5]);
         Check.due("put, a home having room", x.put(keys[13], 1), 1);
+    }
+
+    /** Buckets 1 and 4 are closed but for the key of 1.0, which can go on to 6 once. */
+    private static void answers() {
+        Layout at = new Layout();
+        int mover = at.fill(1, 6, 4, 4, 4)[0];
+        at.fill(4, 1, 1, 1, 1);
+        at.put(1, 4, 2);
+        for (int i = 0; i < 4; i++) {
+            at.put(1, 4, 3);
+        }
+        at.put(1, 4, 4);
+        at.again(mover, 0);
+        Check.due("put of a 37th key", with36Keys().put(-1, 1), -2);
     }
 
     private static void anyInts() {

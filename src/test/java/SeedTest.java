@@ -98,8 +98,8 @@ final class SeedTest {
     private static void dueTooLate(CuckooPages x) {
         for (int k = 0; k < 4; k++) {
             int which = k;
-            Check.dueIllegalState("seed(" + k + ", 9)", () -> x.seed(which, 9));
             Check.dueIllegalState("seed(" + k + ", as it is)", () -> x.seed(which, 1 + which));
+            Check.dueIllegalState("seed(" + k + ", 9)", () -> x.seed(which, 9));
         }
         Check.due("home by seed 0 as it was", x.home(5, false), 6);
     }
