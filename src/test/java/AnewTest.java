@@ -213,7 +213,7 @@ final class AnewTest {
         }
     }
 
-    /** Seed 1 fails amid the keys: only seed 2, which is tried from the first key on again, makes all anew, and once. */
+    /** Seed 1 fails amid the keys: seed 2, which is tried from the first key on again, makes all anew, and once. */
     private static void withoutMakingAnew() {
         int[] keys = Keys.crowded(13, 1, 2);
         CuckooPages x = Keys.stuffed(new CuckooPages(), keys);

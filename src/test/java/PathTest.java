@@ -15,10 +15,10 @@ final class PathTest {
         Check.sentence("its KEY's other HOME is the next b (both being the same)", PathTest::sevenAndZero);
         Check.sentence("if that has an empty SLOT, the least is the end", PathTest::leastEmptyIsTheEnd);
         Check.sentence("if that has an empty SLOT, .. the end (and no SLOT behind it)", PathTest::endsAtOnce);
-        Check.sentence("Along a PATH the KEY put goes to the first SLOT, what was there to the next, and so on to the end.",
-            PathTest::keysWithTheirValues);
-        Check.sentence("The JOURNAL tells all these (a WRITE); .. (a WRITE of its PAGE each time); then the JOURNAL tells"
-            + " nothing (a WRITE).", PathTest::writes);
+        Check.sentence("Along a PATH the KEY put goes to the first SLOT, what was there to the next, and so on"
+            + " to the end.", PathTest::keysWithTheirValues);
+        Check.sentence("The JOURNAL tells all these (a WRITE); .. (a WRITE of its PAGE each time); then the JOURNAL"
+            + " tells nothing (a WRITE).", PathTest::writes);
         Check.sentence("The JOURNAL tells all these (as the first WRITE)", PathTest::journalComesFirst);
         Check.end();
     }

@@ -19,8 +19,8 @@ final class PutTest {
         Check.sentence("If none can be: FULL. (SLOTS are empty, but none that helps)", PutTest::fullThoughEmpty);
         Check.sentence("FULL: a KEY that is there can be put", PutTest::fullButThere);
         Check.sentence("FULL: not for good", PutTest::fullForNow);
-        Check.sentence("0 if the KEY was there, 1 in a HOME at once, 2 by a PATH, 3 in the STASH, 4 by MAKING ANEW; or FULL",
-            PutTest::answers);
+        Check.sentence("0 if the KEY was there, 1 in a HOME at once, 2 by a PATH, 3 in the STASH, 4 by MAKING ANEW;"
+            + " or FULL", PutTest::answers);
         Check.sentence("put: any ints", PutTest::anyInts);
         Check.end();
     }
